@@ -14,6 +14,7 @@ public final class PromisesTest {
         readChanges();
         book();
         laws();
+        lawsAnew();
         lawsOfPlace();
         level();
         loadAndPoint();
@@ -145,6 +146,9 @@ public final class PromisesTest {
         fault(1, "book a^B 1 1;");
         fault(1, "book a^_ 1 1;");
         for (String word : PlainPile.WORDS) fault(1, "book ^" + word + " 1 1;");
+        fine("book ab 1 1;book ba 1 1;book aa 1 1;book a 1 1;book b 1 1;book aaaaaaaa 1 1;");
+        fine("book bc 1 1;book c 1 1;book z 1 1;book zz 1 1;book aaaaaaab 1 1;book baaaaaaa 1 1;");
+        fault(3, "book zzzzzzzz 1 1;book ^zzzzzzzz 1 1;");
         fine("book iff 1 1;book bo 1 1;book tables 1 1;");
         for (String sign : "> , . : [ ] { } ! % & | \" ' ~ ^".split(" ")) {
             EdgePile x = new EdgePile();
@@ -376,6 +380,18 @@ public final class PromisesTest {
         law("above+4", 4);
         law("1;heavy a = 12", 12);
         law("12;heavy a = told", 7);
+    }
+
+    private static void lawsAnew() {
+        EdgePile x = new EdgePile();
+        String law = "1+".repeat(150);
+        for (int i = 0; i < 10; i++) {
+            due("4: again", Texts.read(x, "book a 1 1;heavy a = (" + law + "0)/2+" + i + ";pile a at 0;"), 0);
+            due("6: anew", x.book(0, 2), 75 + i);
+        }
+        due("4: 400 TOKENS", Texts.read(x, "book a 1 1;heavy a = told" + "-1+2".repeat(96) + "-1;pile;pile;"), 0);
+        x.lay(0, 0, false);
+        due("6: a long law", x.book(0, 2), 96);
     }
 
     private static void lawsOfPlace() {
@@ -676,6 +692,9 @@ public final class PromisesTest {
         EdgePile w = told("book a 10 1;table 999;pile a at -500;");
         due("21: 200 at most", w.slides(0, true), 200);
         due("21: 200 at most", w.slides(0, false), -200);
+        due("21: by 199", told("book a 10 1;table 999;pile a at -204;").slides(0, true), 199);
+        due("21: by 200", told("book a 10 1;table 999;pile a at -205;").slides(0, true), 200);
+        due("21: by -199", told("book a 10 1;table 300;pile a at -106;").slides(0, false), -199);
         EdgePile z = told("book a 10 1;pile a at -5;");
         due("21: 0", z.slides(0, true), 0);
         due("21: the level below counts", told("book a 10 1;book b 10 1;pile a at -6 b at -6;").slides(1, true), 2);
@@ -839,6 +858,17 @@ public final class PromisesTest {
         EdgePile fly = told("book a 4 1;book b 4 1;book c 1 1;fly 1 on a 4;fly 9 on c 1;table 9;pile a at -3 b at -1;");
         fly.see(true);
         due("29: b less than a, c any", fly.fits(6, 1), 90);
+        EdgePile ends = told("book a 10 1;book b 10 1;table 50;pile a at -55;");
+        ends.see(true);
+        due("29: at the left end", ends.fits(1, 1), 1);
+        ends.move(0, 50);
+        ends.see(true);
+        due("29: at the right end", ends.fits(1, 2), 1);
+        ends.move(0, 1);
+        ends.see(false);
+        ends.move(0, -52);
+        ends.see(false);
+        due("29: beyond both", ends.fits(1, 4), 1);
         EdgePile glue = told("book a 4 1;book b 4 1;table 9;pile a at -4 b at 1 glued;");
         glue.see(true);
         due("29: glued: 3b not more than 2a", glue.fits(3, 1), 3);
