@@ -1,8 +1,5 @@
 /** Each promise by answers reckoned by hand. In a text with a FAULT a ^ stands ahead of the byte where it is. */
-public final class PromisesTest {
-    private static int wrong = 0;
-    private static int asked = 0;
-
+public final class PromisesTest extends Checks {
     public static void main(String[] args) {
         newObject();
         feed();
@@ -40,42 +37,7 @@ public final class PromisesTest {
         span();
         holdAndRestore();
         count();
-        System.out.println(asked + " answers, wrong " + wrong);
-        if (wrong != 0) System.exit(1);
-    }
-
-    private static void due(String what, long got, long want) {
-        asked++;
-        if (got != want) {
-            wrong++;
-            System.out.println(what + ": answered " + got + ", due is " + want);
-        }
-    }
-
-    private static void yes(String what, boolean got) {
-        due(what, got ? 1 : 0, 1);
-    }
-
-    private static void no(String what, boolean got) {
-        due(what, got ? 1 : 0, 0);
-    }
-
-    private static EdgePile told(String text) {
-        EdgePile x = new EdgePile();
-        due("read of " + text, Texts.read(x, text), 0);
-        return x;
-    }
-
-    private static void fault(int number, String marked) {
-        int place = marked.indexOf('^');
-        String text = place < 0 ? marked : marked.substring(0, place) + marked.substring(place + 1);
-        EdgePile x = new EdgePile();
-        due("read of " + marked, Texts.read(x, text), number);
-        due("place of " + marked, x.place(), place);
-    }
-
-    private static void fine(String text) {
-        fault(0, text);
+        finish();
     }
 
     private static void newObject() {
