@@ -22,6 +22,7 @@ public final class PileEdgesTest extends Checks {
         tipsAtTheLowest();
         tipsWithoutLying();
         overTheEdge();
+        allLevelsStand();
         withoutBooks();
         bookAsks();
         bookOutOfThePile();
@@ -118,6 +119,10 @@ public final class PileEdgesTest extends Checks {
         law("(0-7)/(0-2)", 3);
         law("(0-1)/2+10", 10);
         law("100/7/2*3", 21);
+        law("7/1", 7);
+        law("7/(0-1)+10", 3);
+        law("7/7", 1);
+        law("7/8+5", 5);
         law("2*7/4", 3);
     }
 
@@ -317,6 +322,17 @@ public final class PileEdgesTest extends Checks {
         tip("a at -10 b at -21 c at 5 glued", 1, 0);
         tip("a at 1 b at -900 glued", 0, 1);
         tip("a at -61 b at 900 glued", 0, 0);
+        // A heavy a stays, while b beyond its end draws c with it, to either side of b.
+        String heavy = "book a 10 20;book b 10 1;book c 10 1;table 50;pile a at -30 ";
+        due("to the right, c to the right", told(heavy + "b at -19 c at -15 glued;").tips(1), 1);
+        due("to the right, c to the left", told(heavy + "b at -19 c at -60 glued;").tips(1), 1);
+        due("to the left, c to the left", told(heavy + "b at -41 c at -60 glued;").tips(1), 0);
+        due("to the left, c to the right", told(heavy + "b at -41 c at -15 glued;").tips(1), 0);
+        due("at level 1", told(heavy + "b at -41 c at -60 glued;").tips(0), 1);
+        due("at level 2", told(heavy + "b at -25 glued c at -14;").tips(0), 2);
+        due("at level 2, to the right", told(heavy + "b at -25 glued c at -14;").tips(1), 1);
+        due("at level 2", told(heavy + "b at -35 glued c at -46;").tips(0), 2);
+        due("at level 2, to the left", told(heavy + "b at -35 glued c at -46;").tips(1), 0);
     }
 
     private static void overTheEdge() {
@@ -332,6 +348,22 @@ public final class PileEdgesTest extends Checks {
         due("the longer", told("book a 50 1;book b 1 1;pile a at -10 b at 0;").over(), 40);
         due("the farthest", told("book a 99 1;pile a at 999;").over(), 1098);
         due("the least", told("book a 1 1;pile a at -999;").over(), 0);
+    }
+
+    private static void allLevelsStand() {
+        says("A PILE STANDS if all its levels do.");
+        // The heaviest lowest, so that what hangs over above leaves the levels below standing.
+        String pile = "pile f at -9 e at -9 d at -9 c at -9 b at -9 a at -9;";
+        yes("all six", told(SIX + pile).stands());
+        for (int level = 1; level < 6; level++) {
+            EdgePile x = told(SIX + pile);
+            x.move(level, -4);
+            yes("half a one short of the end, level " + level, x.stands());
+            x.move(level, -1);
+            no("half a one ahead of it, level " + level, x.stands());
+            due("there", x.tips(0), level);
+            due("to the left", x.tips(1), 0);
+        }
     }
 
     private static void withoutBooks() {

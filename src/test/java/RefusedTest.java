@@ -22,6 +22,7 @@ public final class RefusedTest extends Checks {
     private record Call(String name, ToLongFunction<EdgePile> run, LongPredicate changes) { }
 
     public static void main(String[] args) {
+        says("What would be (nothing happens)");
         int refused = 0;
         for (Map.Entry<String, Consumer<EdgePile>> state : states().entrySet()) {
             Map<String, List<Long>> before = new LinkedHashMap<>();

@@ -35,6 +35,7 @@ public final class TextEdgesTest extends Checks {
         wrongNumbers();
         faultChangesNothing();
         textInPlaceOfTheOneAhead();
+        textsInARow();
         feed();
         feedBytes();
         back();
@@ -214,9 +215,7 @@ public final class TextEdgesTest extends Checks {
     private static void sameAsPlain(String text) {
         EdgePile x = new EdgePile();
         PlainPile plain = new PlainPile();
-        for (int[] f : Texts.feeds(text)) plain.feed(f[0], f[1], f[2], f[3], f[4]);
-        plain.back(Texts.surplus(text));
-        due("read of " + text, Texts.read(x, text), plain.read());
+        due("read of " + text, Texts.read(x, text), Texts.read(plain, text));
         due("place of " + text, x.place(), plain.place());
     }
 
@@ -543,10 +542,28 @@ public final class TextEdgesTest extends Checks {
         due("laid", x.lay(0, 0, false), 1);
         due("no law of the one ahead", x.book(0, 2), 4);
         due("no FLIES of the one ahead", x.load(0), 10);
+        due("a third text", Texts.read(x, SIX + "pile a at -9 b at -9;"), 0);
+        due("no law of the first one", x.book(0, 2), 1);
+        due("no FLIES of the first one", x.load(0), 3);
+        due("nor where they sat", x.point(0, false), -9);
+        due("FLIES", x.count(4), 0);
         due("a text of nothing", x.read(), 0);
         due("no BOOKS", x.count(0), 0);
         due("no levels", x.count(1), 0);
         no("nothing can be undone", x.undo());
+    }
+
+    /** Laws told in many texts, one behind the other, never run out of room, with or without a FAULT. */
+    private static void textsInARow() {
+        says("else it is in place of the one ahead");
+        EdgePile x = new EdgePile();
+        String law = "1+".repeat(150);
+        for (int i = 0; i < 6; i++) {
+            due("a text", Texts.read(x, "book a 1 1;heavy a=(" + law + "0)/2+" + i + ";pile a at 0;"), 0);
+            due("its law", x.book(0, 2), 75 + i);
+            due("a FAULT", Texts.read(x, "book a 1 1;heavy a=" + law + "0;table 0;"), 5);
+            due("its law still", x.book(0, 2), 75 + i);
+        }
     }
 
     private static void feed() {

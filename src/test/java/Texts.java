@@ -42,6 +42,12 @@ final class Texts {
         return x.read();
     }
 
+    static int read(PlainPile plain, String text) {
+        for (int[] row : feeds(text)) plain.feed(row[0], row[1], row[2], row[3], row[4]);
+        plain.back(surplus(text));
+        return plain.read();
+    }
+
     private int upTo(int n) {
         return random.nextInt(n + 1);
     }

@@ -26,8 +26,10 @@ public final class WouldBeEdgesTest extends Checks {
         outs();
         outGlue();
         reaches();
+        reachDigits();
         reachOrders();
         bestOrders();
+        bestOrdersOfAll();
         bestOrderSets();
         alikes();
         neededs();
@@ -118,6 +120,15 @@ public final class WouldBeEdgesTest extends Checks {
         due("no FLY on a helps b", falls.holds(0, 10), -2);
         due("one on b does", falls.holds(1, 0), 1);
         due("any on b does", falls.bears(1, 0), 9999);
+        String half = "book a 10 1;book b 9 1;table 50;pile a at -20 b at ";
+        for (int place : new int[] {-26, -25, -14, -13}) {
+            due("b tips, at " + place, told(half + place + ";").bears(0, 5), -2);
+            due("b tips, at " + place, told(half + place + ";").holds(0, 5), -2);
+        }
+        for (int place : new int[] {-24, -15}) {
+            due("b stands, at " + place, told(half + place + ";").bears(0, 5), 9999);
+            due("b stands, at " + place, told(half + place + ";").holds(0, 5), 0);
+        }
         EdgePile more = told(TWO + "fly 3 on a 10;pile a at -9;");
         due("more than those there", more.bears(0, 10), 1);
     }
@@ -348,6 +359,19 @@ public final class WouldBeEdgesTest extends Checks {
         due("by 1", told.reach(12, true), 1);
     }
 
+    private static void reachDigits() {
+        says("six BOOKS or fewer as digits 1 .. 6 of a number (BOOK 0 is 1), the first digit the lowest: above (or below) the line");
+        EdgePile x = told("book a 10 1;book b 20 1;book c 30 1;book d 40 1;book e 50 1;book f 60 1;");
+        for (int book = 0; book < 6; book++) due("BOOK " + book, x.reach(book + 1, false), 5 * (book + 1));
+        // The lowest one of two counts a quarter of how LONG it is, the topmost one half.
+        due("a below f: 65 by 2", x.reach(16, false), 65);
+        due("a below f: 65 by 2", x.reach(16, true), 2);
+        due("f below a: 20", x.reach(61, false), 20);
+        due("f below a: 20", x.reach(61, true), 1);
+        due("six: 223 by 4", x.reach(123456, false), 223);
+        due("six: 223 by 4", x.reach(123456, true), 4);
+    }
+
     private static void reachOrders() {
         says("-1: no such order (a digit twice, none of a BOOK, no digits).");
         EdgePile x = told(THREE);
@@ -383,6 +407,23 @@ public final class WouldBeEdgesTest extends Checks {
         // The heavier one below reaches 5821 by 78, the other one 5703 by 78.
         due("the heavier below", told("book a 98 20;book b 99 19;").bestOrder(3), 12);
         due("the heavier below", told("book a 99 19;book b 98 20;").bestOrder(3), 21);
+    }
+
+    /** Of every set of some BOOKS: no order reaches farther, and none that reaches as far comes ahead. */
+    private static void bestOrdersOfAll() {
+        says("that with the greatest REACH; of alike ones, from the lowest up, the first by numbers.");
+        String[] texts = {"book a 99 19;book b 97 17;book c 89 13;book d 83 11;book e 79 7;book f 73 20;",
+            "book a 1 1;book b 1 2;book c 1 3;book d 1 2;", "book a 2 20;book b 99 1;book c 50 7;book d 51 6;book e 49 8;",
+            "book a 10 2;book b 10 3;book c 12 4;book d 11 3;", "book a 12 6;book b 9 8;book c 18 4;book d 8 9;book e 72 1;"};
+        EdgePile x = new EdgePile();
+        PlainPile plain = new PlainPile();
+        for (String text : texts) {
+            due("read", Texts.read(x, text), Texts.read(plain, text));
+            // Asked from the greatest set down: what one set leaves behind must not count for the next.
+            for (int set = (1 << x.count(0)) - 1; set > 0; set--) {
+                due("set " + set + " of " + text, x.bestOrder(set), plain.bestOrder(set));
+            }
+        }
     }
 
     private static void bestOrderSets() {
