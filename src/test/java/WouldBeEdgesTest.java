@@ -404,6 +404,16 @@ public final class WouldBeEdgesTest extends Checks {
         due("all alike", told(SIX).bestOrder(63), 123456);
         due("some alike", told(SIX).bestOrder(0b110100), 356);
         due("the last one", told(SIX).bestOrder(32), 6);
+        // 123 reaches 605 by 42, and 132 but 584 by 42.
+        EdgePile three = told("book a 9 4;book b 19 2;book c 11 1;");
+        due("123", three.bestOrder(7), 123);
+        due("605 by 42", three.reach(123, false), 605);
+        due("605 by 42", three.reach(123, true), 42);
+        due("292 by 21", three.reach(132, false), 292);
+        due("292 by 21", three.reach(132, true), 21);
+        due("the longest topmost", told("book a 16 3;book b 15 3;book c 16 3;").bestOrder(7), 213);
+        due("the heaviest lowest", told("book a 4 1;book b 12 6;book c 10 1;").bestOrder(7), 213);
+        due("as short as can be", told("book a 1 1;book b 1 2;").bestOrder(2), 2);
         // The heavier one below reaches 5821 by 78, the other one 5703 by 78.
         due("the heavier below", told("book a 98 20;book b 99 19;").bestOrder(3), 12);
         due("the heavier below", told("book a 99 19;book b 98 20;").bestOrder(3), 21);
