@@ -487,6 +487,14 @@ public final class TextEdgesTest extends Checks {
         EdgePile x = told(A);
         due("not of the text ahead", Texts.read(x, "pile a at 1;"), 4);
         due("its place", x.place(), 5);
+        fault(4, SIX + "pile a at 1 b at 2 ^g at 3;");
+        fault(4, SIX + "heavy ^g=1;");
+        fault(4, SIX + "fly 1 on ^g 1;");
+        for (int i = 0; i < 3; i++) due("six BOOKS", Texts.read(x, SIX), 0);
+        for (String name : "b c d e f".split(" ")) {
+            due("not of any text ahead", Texts.read(x, "book a 9 1;pile " + name + " at 1;"), 4);
+            due("nor told twice", Texts.read(x, "book a 9 1;book " + name + " 9 1;pile " + name + " at 1;"), 0);
+        }
     }
 
     private static void wrongNumbers() {
@@ -547,6 +555,7 @@ public final class TextEdgesTest extends Checks {
         due("no FLIES of the first one", x.load(0), 3);
         due("nor where they sat", x.point(0, false), -9);
         due("FLIES", x.count(4), 0);
+        due("nor its TABLE", x.count(2), 100);
         due("a text of nothing", x.read(), 0);
         due("no BOOKS", x.count(0), 0);
         due("no levels", x.count(1), 0);

@@ -11,6 +11,7 @@ public final class WouldBeEdgesTest extends Checks {
         bearsNone();
         holdsAtLeast();
         bearsBetween();
+        bearsOnSix();
         bearsOnUpperAndLower();
         bearsAsks();
         pushedTwoHundred();
@@ -102,6 +103,31 @@ public final class WouldBeEdgesTest extends Checks {
             due("bears, a weighs " + weights[i], x.bears(1, 0), least[i] < 0 ? -2 : 5);
             due("holds, a weighs " + weights[i], x.holds(1, 0), least[i]);
         }
+        EdgePile x = told("book a 20 14;book b 10 20;pile a at -4 b at -8;");
+        due("3", x.holds(1, 0), 3);
+        x.move(0, -3);
+        due("one asked ahead does not count: 0", x.holds(1, 0), 0);
+        due("at the left end as ahead", x.bears(1, 0), 5);
+        // At -8: level 1 needs -120 - 8f >= -7(20 + f).
+        due("nearer to a's end", x.bears(1, 3), 20);
+    }
+
+    /** As many levels as there can be, where each one counts: the POINT is half a one ahead of the edge. */
+    private static void bearsOnSix() {
+        says("BEARS of a BOOK in the PILE, at so much from its left end");
+        EdgePile x = told(SIX + "pile a at -5 b at -5 c at -5 d at -5 e at -5 f at -5;");
+        for (int book = 0; book < 6; book++) {
+            due("bears 3 by 1, " + book, x.bears(book, 6), 3);
+            due("bears 3 by 4, " + book, x.bears(book, 9), 0);
+            due("bears any, " + book, x.bears(book, 5), 9999);
+            due("holds, " + book, x.holds(book, 0), 0);
+        }
+        x.move(0, 1);
+        for (int book = 0; book < 6; book++) {
+            due("holds 3 by 1, " + book, x.holds(book, 3), 3);
+            due("holds 3 by 4, " + book, x.holds(book, 0), 1);
+            due("holds none, " + book, x.holds(book, 4), -2);
+        }
     }
 
     private static void bearsOnUpperAndLower() {
@@ -181,6 +207,10 @@ public final class WouldBeEdgesTest extends Checks {
         due("stands", three.pushed(1), 1);
         due("nothing happens", three.book(2, 4), -20);
         due("nothing happens", three.count(6), 0);
+        // From the top: by 4, 2, 1, 1, 1, and all by 6 (from a POINT of -37 by 6 on).
+        EdgePile six = told(SIX + "pile a at -14 b at -14 c at -14 d at -14 e at -14 f at -14;");
+        due("six", six.pushed(0), 10);
+        due("six stand", six.pushed(1), 1);
         EdgePile left = told(TWO + "pile a at -20 b at -25;");
         due("from the left end of what it lies on", left.pushed(0), 7);
     }
@@ -233,6 +263,10 @@ public final class WouldBeEdgesTest extends Checks {
         // a is never the last one: c a b, a b c, a c b, b a c.
         due("a alone falls", told(THREE + "pile a at -4 b at -6 c at -9;").takings(), 4);
         due("three", told(THREE + "pile a at -10 b at -10 c at -10;").takings(), 6);
+        EdgePile again = told(THREE + "pile a at -10 b at -10 c at -10;");
+        for (int i = 0; i < 3; i++) due("three, asked again", again.takings(), 6);
+        again.lift();
+        for (int i = 0; i < 2; i++) due("two of them", again.takings(), 2);
         due("six", told(SIX + "pile a at -9 b at -9 c at -9 d at -9 e at -9 f at -9;").takings(), 720);
         due("five", told(SIX + "pile a at -9 b at -9 c at -9 d at -9 e at -9;").takings(), 120);
         says("(one that was glued to a BOOK taken out is glued to nothing; without BOOKS 1).");
