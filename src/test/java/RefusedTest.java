@@ -26,7 +26,7 @@ public final class RefusedTest extends Checks {
         int refused = 0;
         for (Map.Entry<String, Consumer<EdgePile>> state : states().entrySet()) {
             Map<String, List<Long>> before = new LinkedHashMap<>();
-            for (String probe : PROBES) before.put(probe, seen(made(state.getValue()), probe));
+            for (String probe : Looks.PROBES) before.put(probe, Looks.seen(made(state.getValue()), probe));
             for (Call call : calls()) refused += changesNothing(state.getKey(), state.getValue(), call, before);
             for (String text : FAULTY) faultChangesNothing(state.getKey(), state.getValue(), text);
         }
@@ -91,11 +91,11 @@ public final class RefusedTest extends Checks {
         List<Call> all = new ArrayList<>();
         all.add(new Call("feed", x -> x.feed(0x31323334, 0, -1, 7, 0x3b3b3b3b), UNLESS_NONE));
         all.add(new Call("place", x -> x.place(), NEVER));
-        all.add(new Call("stands", x -> asLong(x.stands()), NEVER));
+        all.add(new Call("stands", x -> Looks.asLong(x.stands()), NEVER));
         all.add(new Call("over", x -> x.over(), NEVER));
         all.add(new Call("takings", x -> x.takings(), NEVER));
         all.add(new Call("lift", x -> x.lift(), UNLESS_NONE));
-        all.add(new Call("undo", x -> asLong(x.undo()), IF_TRUE));
+        all.add(new Call("undo", x -> Looks.asLong(x.undo()), IF_TRUE));
         all.add(new Call("see true", x -> x.see(true), UNLESS_NONE));
         all.add(new Call("see false", x -> x.see(false), UNLESS_NONE));
         all.add(new Call("forget", x -> x.forget(), answer -> answer > 0));
@@ -116,8 +116,8 @@ public final class RefusedTest extends Checks {
         all.add(new Call("out " + n, x -> x.out(n), NEVER));
         all.add(new Call("bestOrder " + n, x -> x.bestOrder(n), NEVER));
         all.add(new Call("count " + n, x -> x.count(n), NEVER));
-        all.add(new Call("hold " + n, x -> asLong(x.hold(n)), IF_TRUE));
-        all.add(new Call("restore " + n, x -> asLong(x.restore(n)), IF_TRUE));
+        all.add(new Call("hold " + n, x -> Looks.asLong(x.hold(n)), IF_TRUE));
+        all.add(new Call("restore " + n, x -> Looks.asLong(x.restore(n)), IF_TRUE));
         for (boolean is : new boolean[] {false, true}) {
             all.add(new Call("point " + n, x -> x.point(n, is), NEVER));
             all.add(new Call("slides " + n, x -> x.slides(n, is), NEVER));
@@ -130,7 +130,7 @@ public final class RefusedTest extends Checks {
         all.add(new Call("book " + n + " " + m, x -> x.book(n, m), NEVER));
         all.add(new Call("lay " + n + " " + m, x -> x.lay(n, m, true), UNLESS_NONE));
         all.add(new Call("lay " + n + " " + m, x -> x.lay(n, m, false), UNLESS_NONE));
-        all.add(new Call("move " + n + " " + m, x -> asLong(x.move(n, m)), IF_TRUE));
+        all.add(new Call("move " + n + " " + m, x -> Looks.asLong(x.move(n, m)), IF_TRUE));
         all.add(new Call("bears " + n + " " + m, x -> x.bears(n, m), NEVER));
         all.add(new Call("holds " + n + " " + m, x -> x.holds(n, m), NEVER));
         all.add(new Call("needed " + n + " " + m, x -> x.needed(n, m), NEVER));
@@ -141,15 +141,11 @@ public final class RefusedTest extends Checks {
         }
     }
 
-    private static long asLong(boolean yes) {
-        return yes ? 1 : 0;
-    }
-
     private static int changesNothing(String name, Consumer<EdgePile> state, Call call, Map<String, List<Long>> before) {
-        for (String probe : PROBES) {
+        for (String probe : Looks.PROBES) {
             EdgePile x = made(state);
             if (call.changes.test(call.run.applyAsLong(x))) return 0;
-            same(name + ": " + probe + " behind " + call.name, seen(x, probe), before.get(probe));
+            same(name + ": " + probe + " behind " + call.name, Looks.seen(x, probe), before.get(probe));
         }
         return 1;
     }
@@ -163,7 +159,7 @@ public final class RefusedTest extends Checks {
         "book z 100 1;", "book z 1 1;fly 1 on z 2;", "heavy z=((((((("};
 
     private static void faultChangesNothing(String name, Consumer<EdgePile> state, String text) {
-        for (String probe : PROBES) {
+        for (String probe : Looks.PROBES) {
             EdgePile x = made(state);
             EdgePile y = made(state);
             x.back(x.count(5));
@@ -172,74 +168,7 @@ public final class RefusedTest extends Checks {
             // Only the latest read's place may differ, so both have another read of one FAULT behind them.
             Texts.read(x, "  #");
             Texts.read(y, "  #");
-            same(name + ": " + probe + " behind a FAULT of " + text, seen(x, probe), seen(y, probe));
+            same(name + ": " + probe + " behind a FAULT of " + text, Looks.seen(x, probe), Looks.seen(y, probe));
         }
-    }
-
-    private static final String[] PROBES = {"look", "undo", "restore", "fits", "tape"};
-
-    private static List<Long> seen(EdgePile x, String probe) {
-        List<Long> all = new ArrayList<>();
-        switch (probe) {
-            case "look" -> look(x, all);
-            case "undo" -> {
-                for (int i = 0; i < 52; i++) {
-                    all.add(asLong(x.undo()));
-                    lying(x, all, i < 4);
-                }
-            }
-            case "restore" -> {
-                for (int slot = 0; slot < 3; slot++) {
-                    all.add(asLong(x.restore(slot)));
-                    all.add((long) x.count(6));
-                    lying(x, all, true);
-                }
-            }
-            case "fits" -> {
-                for (int k = 0; k <= 7; k++) {
-                    all.add((long) x.fits(2, k));
-                    for (int book = 0; book < 6; book++) all.add((long) x.span(2, k, book));
-                }
-                all.add((long) x.forget());
-            }
-            default -> {
-                all.add((long) x.read());
-                look(x, all);
-            }
-        }
-        return all;
-    }
-
-    private static void lying(EdgePile x, List<Long> all, boolean inFull) {
-        all.add((long) x.level(x.count(1) - 1));
-        all.add((long) x.book(0, 4));
-        for (int book = 0; book < 6 && inFull; book++) {
-            all.add((long) x.book(book, 3));
-            all.add((long) x.book(book, 4));
-            all.add((long) x.book(book, 5));
-        }
-    }
-
-    private static void look(EdgePile x, List<Long> all) {
-        for (int what = 0; what <= 8; what++) all.add((long) x.count(what));
-        all.add((long) x.place());
-        for (int i = 0; i < 6; i++) {
-            for (int what = 0; what <= 5; what++) all.add((long) x.book(i, what));
-            all.add((long) x.load(i));
-            all.add(x.point(i, false));
-            all.add(x.point(i, true));
-            all.add((long) x.bears(i, 3));
-            all.add((long) x.holds(i, 0));
-            all.add((long) x.slides(i, true));
-            all.add((long) x.out(i));
-        }
-        all.add(asLong(x.stands()));
-        all.add((long) x.tips(0));
-        all.add((long) x.tips(1));
-        all.add((long) x.over());
-        all.add((long) x.takings());
-        all.add((long) x.pushed(0));
-        all.add((long) x.bestOrder((1 << x.count(0)) - 1));
-        all.add(x.reach(1, true));
     }
 }
